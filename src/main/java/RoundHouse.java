@@ -1004,8 +1004,10 @@ public final class RoundHouse {
 
         long allVotes() {
             long sum = 0;
-            for (int c = 0; c < types(); c++) {
-                sum += allConverted(c);
+            for (int h = 0; h < HOLDERS; h++) {
+                for (int c = 0; c < types(); c++) {
+                    sum += converted(c, held(h, c));
+                }
             }
             return sum;
         }
@@ -1204,16 +1206,12 @@ public final class RoundHouse {
             return true;
         }
 
-        private int peek() {
-            return at >= 0 && at < length ? signs[at] : NONE;
-        }
-
-        private boolean isDigitHere() {
-            return peek() >= '0' && peek() <= '9';
+        private int digitHere() {
+            return at < length && signs[at] >= '0' && signs[at] <= '9' ? signs[at] - '0' : NONE;
         }
 
         private boolean takes(char c) {
-            if (peek() != c) {
+            if (at >= length || signs[at] != c) {
                 return false;
             }
             at++;
@@ -1231,17 +1229,20 @@ public final class RoundHouse {
 
         /** A number from least (0 or 1) to most: it, or NONE with the position at the bad sign. */
         private long readNumber(int least, long most) {
-            if (!isDigitHere() || peek() - '0' < least) {
+            long n = digitHere();
+            if (n < least) {
                 return NONE;
             }
-            long n = peek() - '0';
             at++;
-            for (int digits = 1; digits <= MOST_DIGITS && isDigitHere(); digits++) {
-                long longer = 10 * n + peek() - '0';
-                if (n == 0 || digits == MOST_DIGITS || longer > most) {
+            for (int digits = 1; digits <= MOST_DIGITS; digits++) {
+                int digit = digitHere();
+                if (digit < 0) {
+                    return n;
+                }
+                if (n == 0 || digits == MOST_DIGITS || 10 * n + digit > most) {
                     return NONE;
                 }
-                n = longer;
+                n = 10 * n + digit;
                 at++;
             }
             return n;
@@ -1364,7 +1365,7 @@ public final class RoundHouse {
         private boolean readsMoney(Terms terms) {
             int last = NONE;
             for (int i = 0; i < HOLDERS; i++) {
-                int holder = peek() - '0';
+                int holder = digitHere();
                 if (holder <= last || holder >= HOLDERS) {
                     return false;
                 }
@@ -1447,18 +1448,21 @@ public final class RoundHouse {
                 return NO_PRICE;
             }
             notesAhead();
+            long others = broadAhead - poolAhead;
             for (turns = 1; turns <= LAST_TURN; turns++) {
-                int bad = prices(terms);
-                if (bad < 0) {
-                    return bad;
+                price = quotient(UNIT * terms.value, terms.late ? others : others + house.spare());
+                if (price < 1 || price > MOST_PRICE) {
+                    return NO_PRICE;
                 }
+                allots(terms);
                 boolean changed = movesConvs(terms);
-                long rest = house.size() - house.spare() + issued;
-                if (rest > MOST_FULL) {
+                others = house.size() - house.spare();
+                // Looked at ahead of the pool, too, so that the pool's own reckoning stays small.
+                if (others + issued > MOST_FULL) {
                     return TOO_MUCH;
                 }
-                long topped = Math.max(poolAhead, toppedUp(terms.top, rest));
-                full = rest + topped;
+                long topped = Math.max(poolAhead, toppedUp(terms.top, others + issued));
+                full = others + issued + topped;
                 if (full > MOST_FULL) {
                     return TOO_MUCH;
                 }
@@ -1480,18 +1484,12 @@ public final class RoundHouse {
             }
         }
 
-        private int prices(Terms terms) {
-            long size = house.size() - (terms.late ? house.spare() : 0);
-            price = quotient(UNIT * terms.value, size);
-            if (price < 1 || price > MOST_PRICE) {
-                return NO_PRICE;
-            }
+        private void allots(Terms terms) {
             issued = 0;
             for (int h = 0; h < HOLDERS; h++) {
                 news[h] = quotient(UNIT * terms.money[h], price);
                 issued += news[h];
             }
-            return 0;
         }
 
         private boolean movesConvs(Terms terms) {

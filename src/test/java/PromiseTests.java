@@ -412,12 +412,14 @@ public final class PromiseTests {
         badRound("pre 5 pool x:0=1", 11);
         badRound("pre 5 pool 00:0=1", 12);
         badRound("pre 5 pool 600:0=1", 13);
+        badRound("pre 5 pool 501:0=1", 13);
         badRound("pre 5 pool 5000:0=1", 14);
         badRound("pre 5 pool 5 pool 5:0=1", 14);
         badRound("pre 5 late late:0=1", 11);
         badRound("pre 5 full broad:0=1", 11);
         badRound("pre 5 full late:0=1", 11);
         badRound("pre 5 narrow full:0=1", 13);
+        badRound("pre 5 pref 51:0=1", 12);
         badRound("pre 5 pref 60:0=1", 12);
         badRound("pre 5 pref 5 pref 5:0=1", 14);
         badRound("pre 5 part part:0=1", 12);
@@ -434,6 +436,8 @@ public final class PromiseTests {
         badRound("pre 5:0=1;", 9);
         badRound("pre 5:3=1,2=1", 10);
         badRound("pre 5:3=1,9=1", 10);
+        badRound("pre 5:3=1,3=1", 10);
+        badRound("pre 5:8=1", 6);
         badRound("pre 5:7=1,", 9);
         badRound("pre 5:0=1 ", 9);
     }
@@ -529,6 +533,9 @@ public final class PromiseTests {
         due("price", x.type(1, 1), 100000000);
         due("200 turns", round(x, "pre 10000000:2=1"), -4);
         due("nothing changes", x.type(1, 2), 100000000);
+        due("the 201st would be the last", round(x, "pre 10379001:2=1"), -4);
+        due("the 200th is the last", text(x, "pre 10381001:2=1").thought(), 3813740);
+        due("turns", x.row(1), 200);
         due("no class", x.count(0), 2);
     }
 
@@ -1032,6 +1039,10 @@ public final class PromiseTests {
         promise = 47;
         due("flips", x.flips(1, 1), -2);
         due("flips", x.flips(1, 100), 5600);
+        y = founded("1000");
+        round(y, "pre 1000:1=995");
+        due("at the last step", y.flips(1, 20), 2000);
+        due("beyond the last step", y.flips(1, 19), -2);
         due("never with part", x.flips(2, 1000000), -2);
         due("d", x.flips(1, 0), -1);
         due("d", x.flips(1, 1000001), -1);
@@ -1085,6 +1096,9 @@ public final class PromiseTests {
         due("pool", x.count(1), 2);
         x.issues(0, 0);
         due("refused ones are none", x.undo(), -2);
+        x.issues(0, Integer.MAX_VALUE);
+        x.issues(1, 7);
+        due("refused ones leave nothing", x.shares(0, 0), 0);
         x = afterOneRound();
         x.term(1, 0, 2);
         x.cancels(2, 1, 5);
