@@ -23,6 +23,7 @@ public final class BoundaryDeeds {
         gives();
         splits();
         splitPrices();
+        withFiveClasses();
         converts();
         term();
         Bench.ends(1, 15);
@@ -545,7 +546,53 @@ public final class BoundaryDeeds {
         Bench.refused("splits", () -> halvesUpTo(99997844 + 2155), y -> y.splits(10), -9);
     }
 
+    private static void withFiveClasses() {
+        Bench.promise(12, "all SHARES of five CLASSES");
+        RoundHouse x = Bench.fiveAndPool();
+        due("gives", x.gives(0, 2), 1008);
+        due("common", x.shares(2, 0), 1000);
+        due("the last class", x.shares(2, 5), 1);
+        due("options", x.options(2), 7);
+        for (int t = 1; t <= 5; t++) {
+            due("the others stay", x.shares(1, t), t == 5 ? 9 : 10);
+        }
+        due("nothing is left", x.count(7), 6);
+        due("full", x.full(), 1150);
+        x = Bench.fiveAndPool();
+        due("gives", x.gives(1, 0), 1057);
+        due("nothing is left", x.count(7), 1);
+        Bench.promise(13, "all SHARES of five CLASSES, OPTIONS and the POOL");
+        x = Bench.fiveAndPool();
+        due("splits", x.splits(2), 2300);
+        for (int t = 1; t <= 5; t++) {
+            due("shares", x.shares(1, t), t == 5 ? 18 : 20);
+            due("price", x.type(t, 1), 5000);
+            due("conv", x.type(t, 2), 5000);
+            due("pref stays", x.type(t, 4), 10);
+        }
+        due("common", x.shares(0, 0), 2000);
+        due("shares", x.shares(0, 5), 2);
+        due("options", x.options(0), 14);
+        due("pool", x.count(1), 186);
+        Bench.promise(13, "MONEY stays");
+        x = Bench.founded("10");
+        Bench.round(x, "pre 10:0=5");
+        x.splits(2);
+        due("splits", x.splits(10), 300);
+        due("paid", x.paid(0), 5);
+    }
+
     private static void converts() {
+        Bench.promise(14, "1 SHARE that is more");
+        // P is 4995, then, as 1 share is 2 of common by a CONV of 4995, 4990.
+        RoundHouse low = Bench.founded("1000");
+        Bench.round(low, "pre 1000 full:1=1");
+        due("round", Bench.round(low, "pre 500 late:2=1"), 4990);
+        due("conv", low.type(1, 2), 4990);
+        due("stake", low.stake(1), 2);
+        due("full", low.full(), 1004);
+        due("converts", low.converts(1, 1, 1), 2);
+        due("common", low.shares(1, 0), 2);
         Bench.promise(14, "it has not so many");
         for (int n : new int[] {52, 53, MAX}) {
             Bench.refused("converts of " + n, Bench::halves, x -> x.converts(1, 1, n), -2);

@@ -21,6 +21,8 @@ public final class BoundaryHoldings {
         value();
         majority();
         swing();
+        withFiveClasses();
+        oneByOne();
         Bench.ends(24, 37);
     }
 
@@ -468,6 +470,47 @@ public final class BoundaryHoldings {
         most(Bench.busy(), 3, 1401, 1401, 2801);
         Bench.promise(36, "by CONVERTED");
         most(Bench.halves(), 1, 2000, 2078, 4155);
+    }
+
+    private static void withFiveClasses() {
+        Bench.promise(26, "with five CLASSES, OPTIONS and a POOL");
+        RoundHouse x = Bench.fiveAndPool();
+        stakeOf(x, 0, 1008, 876, 953);
+        stakeOf(x, 1, 49, 42, 46);
+        stakeOf(x, 7, 0, 0, 0);
+        Bench.promise(27, "with five CLASSES, OPTIONS and a POOL");
+        due("full", x.full(), 1150);
+        Bench.row(x, "full", 1000, 10, 10, 10, 10, 10, 7, 93);
+        Bench.promise(28, "with five CLASSES, OPTIONS and a POOL");
+        due("holders of common", x.type(0, 7), 1);
+        due("holders of the last", x.type(5, 7), 3);
+        x = Bench.founded("0,5");
+        Bench.round(x, "pre 5:0=5");
+        due("holders of what 0 paid for", x.type(1, 7), 1);
+        x.gives(0, 2);
+        due("holders of what 0 paid for", x.type(1, 7), 4);
+    }
+
+    private static void oneByOne() {
+        RoundHouse x = Bench.founded("5,9");
+        x.greatest();
+        x.issues(0, 5);
+        Bench.promise(30, "as it is now");
+        due("greatest", x.greatest(), 0);
+        Bench.promise(31, "as it is now");
+        controlled(x, 1, 1);
+        Bench.promise(37, "as it is now");
+        x.issues(1, 5);
+        swung(x, 0, 128, 0, 0, 0, 0, 0, 0);
+        x.issues(0, 100);
+        x.block(0);
+        x.cancels(0, 0, 100);
+        controlled(x, 1, 2);
+        x.issues(0, 100);
+        Bench.promise(32, "as it is now");
+        led(x, 0, 0, 887, 1);
+        Bench.promise(33, "as it is now");
+        blocked(x, 0, 1, 1);
     }
 
     private static void swung(RoundHouse x, long... want) {

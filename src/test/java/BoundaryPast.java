@@ -13,6 +13,7 @@ public final class BoundaryPast {
         back();
         deedsOfAllKinds();
         refusedDeeds();
+        deedsBehindOthers();
         eight();
         undoAndKept();
         counts();
@@ -160,6 +161,30 @@ public final class BoundaryPast {
         due("the latest that was none of these", x.count(0), 5);
     }
 
+    private static void deedsBehindOthers() {
+        for (Map.Entry<String, Bench.Call> deed : deeds().entrySet()) {
+            String name = deed.getKey();
+            RoundHouse y = Bench.busy();
+            long want = deed.getValue().on(y);
+            Bench.promise(50, "a DEED behind one that was refused");
+            RoundHouse x = Bench.busy();
+            due("refused", x.issues(0, BILLION), -9);
+            due(name + " behind issues, refused", deed.getValue().on(x), want);
+            Bench.sameFacts(name + " behind issues, refused", x, y);
+            Bench.promise(50, "a DEED behind one that was undone");
+            x = Bench.busy();
+            x.splits(2);
+            x.undo();
+            due(name + " behind splits, undone", deed.getValue().on(x), want);
+            Bench.sameFacts(name + " behind splits, undone", x, y);
+            Bench.promise(50, "a DEED behind a ROUND in thought");
+            x = Bench.busy();
+            Bench.text(x, "pre 500 pool 200:0=500").thought();
+            due(name + " behind a thought", deed.getValue().on(x), want);
+            Bench.sameFacts(name + " behind a thought", x, y);
+        }
+    }
+
     /** A house with a pool of n, by n deeds. */
     private static RoundHouse pooled(int n) {
         RoundHouse x = new RoundHouse();
@@ -272,6 +297,14 @@ public final class BoundaryPast {
         due("options", x.count(8), 128);
         x.cancels(6, 0, 1);
         due("stakes", x.count(7), 129);
+        x.lapses(7, 1);
+        due("options", x.count(8), 0);
+        x.grant(0, 1);
+        due("options", x.count(8), 1);
+        x = new RoundHouse();
+        x.pool(1);
+        x.grant(0, 1);
+        due("options alone are a stake", x.count(7), 1);
         x = Bench.five();
         due("ratchets", x.count(9), 0);
         due("play", x.count(10), 0);

@@ -23,6 +23,7 @@ public final class BoundaryRounds {
         meansOfRounds();
         playing();
         asDeed();
+        oneByOne();
         thought();
         told();
         diluted();
@@ -128,6 +129,12 @@ public final class BoundaryRounds {
         bad("pre 5:", 6);
         bad("pre 5:,0=1", 6);
         bad("pre 5::0=1", 6);
+        bad("pre 5 pool:0=1", 10);
+        bad("pre 5 pool late:0=1", 11);
+        bad("pre 5 pool5:0=1", 10);
+        bad("pre 5 pref:0=1", 10);
+        bad("pre 5 pref part:0=1", 11);
+        bad("pre 5 pref5:0=1", 10);
         bad("pre 5: 0=1", 6);
         bad("pre 5:0 =1", 7);
         bad("pre 5:0= 1", 8);
@@ -495,6 +502,27 @@ public final class BoundaryRounds {
         due("no text any more", Bench.founded("5").thought(), -21);
     }
 
+    private static void oneByOne() {
+        Bench.promise(16, "what one text tells is not told by the next");
+        RoundHouse x = Bench.founded("1000");
+        String all = "pre 999 pool 100 late narrow pref 50 part play:0=1,1=2,2=3,3=4,4=5,5=6,6=7,7=8";
+        due("thought", Bench.text(x, all).thought(), 9990);
+        due("bad", Bench.text(x, all + "x").thought(), -21 - all.length());
+        due("round", Bench.round(x, "pre 1000:3=1"), 10000);
+        Bench.row(x, "round", 1, 1, 1001);
+        due("pool", x.count(1), 0);
+        due("M", x.told(1, 1), 1);
+        due("holders", x.type(1, 7), 8);
+        due("ratchet", x.type(1, 3), 0);
+        due("pref", x.type(1, 4), 10);
+        due("part", x.type(1, 5), 0);
+        due("play", x.type(1, 6), 0);
+        x = new RoundHouse();
+        x.pool(1000);
+        due("thought", Bench.text(x, all).thought(), -3);
+        due("late no more", Bench.round(x, "pre 1000:3=1"), 10000);
+    }
+
     private static void thought() {
         Bench.promise(17, "the same in thought");
         Bench.asksText("thought", Bench::busy, "pre 1500:0=100", RoundHouse::thought, 10000);
@@ -653,6 +681,11 @@ public final class BoundaryRounds {
         RoundHouse x = Bench.text(fullOfThousand(), "pre 1000:2=100");
         due("one can't be", x.ratchets(), 2);
         Bench.row(x, "ratchets", 5000, -3, 4880, 4880);
+        Bench.text(x, "pre 1000:2=100");
+        due("the same again", x.ratchets(), 2);
+        x = Bench.text(Bench.founded("10000"), "pre 1:2=1");
+        due("P 1", x.ratchets(), 1);
+        Bench.row(x, "ratchets", 1, 1, 1, 1);
         x = Bench.text(Bench.founded("1000"), "pre 1000:2=100");
         due("no classes", x.ratchets(), 1);
         Bench.row(x, "ratchets", 10000, 10000, 10000, 10000);

@@ -18,6 +18,7 @@ public final class BoundarySales {
         order();
         gets();
         over();
+        withFiveClasses();
         worth();
         curve();
         stage();
@@ -276,6 +277,31 @@ public final class BoundarySales {
         got(x, 1, 502, 1, 0);
         got(x, 2, 502, 0, 0);
         got(x, 2, 503, 1, 0);
+    }
+
+    private static void withFiveClasses() {
+        RoundHouse x = Bench.fiveAndPool();
+        Bench.promise(39, "with five CLASSES");
+        got(x, 0, 9, 0, 0);
+        got(x, 0, 10, 1, 0);
+        got(x, 1, 10, 9, 0);
+        got(x, 1, 50, 49, 0);
+        got(x, 2, 50, 0, 0);
+        got(x, 1, 1057, 49, 0);
+        got(x, 0, 1057, 1, 1007);
+        // All five convert: 2 for each of 1057 parts.
+        got(x, 0, 2114, 0, 2016);
+        got(x, 1, 2114, 0, 98);
+        Bench.promise(40, "with five CLASSES");
+        overOf(x, 50, 0, 1, 49, 0, 0, 0, 0, 0, 0);
+        overOf(x, 1057, 0, 1008, 49, 0, 0, 0, 0, 0, 0);
+        overOf(x, 2114, 0, 2016, 98, 0, 0, 0, 0, 0, 0);
+        Bench.promise(39, "fewer CLASSES than in the sale ahead");
+        x.end(0);
+        x.founds();
+        x.issues(3, 2);
+        got(x, 3, 2114, 0, 2114);
+        got(x, 1, 2114, 0, 0);
     }
 
     private static void overOf(RoundHouse x, int s, long over, long... gets) {

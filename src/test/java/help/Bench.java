@@ -118,6 +118,15 @@ final class Bench {
         return x;
     }
 
+    /** five() with 7 options of holder 0, the pool 93, and one share of the last class of holder 0, too: FULL is 1150. */
+    static RoundHouse fiveAndPool() {
+        RoundHouse x = five();
+        x.pool(100);
+        x.grant(0, 7);
+        x.sells(1, 0, 5, 1);
+        return x;
+    }
+
     /**
      * Common 1000, 1000 of holders 0, 2; class 1, PRICE 10000, CONV 6499: 51, 50 of holders 1, 3 are 78, 76,
      * but 101 of one holder would be 155; class 2: 1 of holder 4. FULL is 2155.
