@@ -559,8 +559,11 @@ public final class BoundaryDeeds {
         due("nothing is left", x.count(7), 6);
         due("full", x.full(), 1150);
         x = Bench.fiveAndPool();
-        due("gives", x.gives(1, 0), 1057);
-        due("nothing is left", x.count(7), 1);
+        x.issues(2, 5);
+        due("gives", x.gives(1, 0), 957);
+        due("nothing is left", x.count(7), 5);
+        due("common of the next one stays", x.shares(2, 0), 105);
+        due("it has none now", x.gives(1, 0), -2);
         Bench.promise(13, "all SHARES of five CLASSES, OPTIONS and the POOL");
         x = Bench.fiveAndPool();
         due("splits", x.splits(2), 2300);
@@ -570,7 +573,8 @@ public final class BoundaryDeeds {
             due("conv", x.type(t, 2), 5000);
             due("pref stays", x.type(t, 4), 10);
         }
-        due("common", x.shares(0, 0), 2000);
+        due("common", x.shares(0, 0), 1800);
+        due("common", x.shares(2, 0), 200);
         due("shares", x.shares(0, 5), 2);
         due("options", x.options(0), 14);
         due("pool", x.count(1), 186);

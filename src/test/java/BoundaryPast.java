@@ -166,22 +166,23 @@ public final class BoundaryPast {
             String name = deed.getKey();
             RoundHouse y = Bench.busy();
             long want = deed.getValue().on(y);
+            List<Long> facts = Bench.facts(y);
             Bench.promise(50, "a DEED behind one that was refused");
             RoundHouse x = Bench.busy();
             due("refused", x.issues(0, BILLION), -9);
             due(name + " behind issues, refused", deed.getValue().on(x), want);
-            Bench.sameFacts(name + " behind issues, refused", x, y);
+            Bench.hasFacts(name + " behind issues, refused", x, facts);
             Bench.promise(50, "a DEED behind one that was undone");
             x = Bench.busy();
             x.splits(2);
             x.undo();
             due(name + " behind splits, undone", deed.getValue().on(x), want);
-            Bench.sameFacts(name + " behind splits, undone", x, y);
+            Bench.hasFacts(name + " behind splits, undone", x, facts);
             Bench.promise(50, "a DEED behind a ROUND in thought");
             x = Bench.busy();
             Bench.text(x, "pre 500 pool 200:0=500").thought();
             due(name + " behind a thought", deed.getValue().on(x), want);
-            Bench.sameFacts(name + " behind a thought", x, y);
+            Bench.hasFacts(name + " behind a thought", x, facts);
         }
     }
 
@@ -305,6 +306,16 @@ public final class BoundaryPast {
         x.pool(1);
         x.grant(0, 1);
         due("options alone are a stake", x.count(7), 1);
+        x = Bench.founded("0,5");
+        Bench.round(x, "pre 5:0=5");
+        due("stakes", x.count(7), 3);
+        x = Bench.founded("1000");
+        for (int i = 0; i < 5; i++) {
+            Bench.round(x, "pre " + (1000 + 10 * i) + ":7=10");
+        }
+        due("no options", x.count(2), 0);
+        due("no options", x.count(8), 0);
+        due("stakes", x.count(7), 129);
         x = Bench.five();
         due("ratchets", x.count(9), 0);
         due("play", x.count(10), 0);

@@ -288,14 +288,15 @@ public final class BoundarySales {
         got(x, 1, 50, 49, 0);
         got(x, 2, 50, 0, 0);
         got(x, 1, 1057, 49, 0);
-        got(x, 0, 1057, 1, 1007);
+        got(x, 0, 1057, 1, 907);
+        got(x, 2, 1057, 0, 100);
         // All five convert: 2 for each of 1057 parts.
-        got(x, 0, 2114, 0, 2016);
+        got(x, 0, 2114, 0, 1816);
         got(x, 1, 2114, 0, 98);
         Bench.promise(40, "with five CLASSES");
         overOf(x, 50, 0, 1, 49, 0, 0, 0, 0, 0, 0);
-        overOf(x, 1057, 0, 1008, 49, 0, 0, 0, 0, 0, 0);
-        overOf(x, 2114, 0, 2016, 98, 0, 0, 0, 0, 0, 0);
+        overOf(x, 1057, 0, 908, 49, 100, 0, 0, 0, 0, 0);
+        overOf(x, 2114, 0, 1816, 98, 200, 0, 0, 0, 0, 0);
         Bench.promise(39, "fewer CLASSES than in the sale ahead");
         x.end(0);
         x.founds();

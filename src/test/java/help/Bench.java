@@ -118,12 +118,13 @@ final class Bench {
         return x;
     }
 
-    /** five() with 7 options of holder 0, the pool 93, and one share of the last class of holder 0, too: FULL is 1150. */
+    /** five() with 7 options and one share of the last class of holder 0, 100 of its common of 2, the pool 93: FULL is 1150. */
     static RoundHouse fiveAndPool() {
         RoundHouse x = five();
         x.pool(100);
         x.grant(0, 7);
         x.sells(1, 0, 5, 1);
+        x.sells(0, 2, 0, 100);
         return x;
     }
 
@@ -159,7 +160,8 @@ final class Bench {
 
     static List<Long> numbers(RoundHouse x) {
         List<Long> all = new ArrayList<>();
-        for (int i = 0; i < x.count(5); i++) {
+        int many = x.count(5);
+        for (int i = 0; i < many; i++) {
             all.add(rowOf(x, i));
         }
         return all;
@@ -191,7 +193,11 @@ final class Bench {
     }
 
     static void sameFacts(String call, RoundHouse x, RoundHouse y) {
-        due(call + ": the house is the same", facts(x).equals(facts(y)), true);
+        hasFacts(call, x, facts(y));
+    }
+
+    static void hasFacts(String call, RoundHouse x, List<Long> want) {
+        due(call + ": the house is the same", facts(x).equals(want), true);
     }
 
     /** Deeds, what is kept and what can be undone; the houses are used up then. */
