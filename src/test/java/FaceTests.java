@@ -5,6 +5,7 @@ import java.lang.reflect.Method;
 import java.lang.reflect.Modifier;
 import java.nio.file.Files;
 import java.nio.file.Path;
+import java.util.NoSuchElementException;
 import java.util.Set;
 import java.util.TreeSet;
 import java.util.regex.Matcher;
@@ -41,6 +42,7 @@ public final class FaceTests {
 
     public static void main(String[] args) throws IOException {
         face();
+        document(Files.readString(Path.of("../shared/DOC.md")));
         names();
         text(Files.readString(Path.of("src/main/java/RoundHouse.java")));
         System.out.println(wrong == 0 ? "the face is as told" : wrong + " things are not as told");
@@ -65,6 +67,24 @@ public final class FaceTests {
         }
         for (Constructor<?> c : RoundHouse.class.getDeclaredConstructors()) {
             check(c.getParameterCount() == 0 && Modifier.isPublic(c.getModifiers()), "one public constructor");
+        }
+    }
+
+    /** Each line of the document's face must be one of the class, its parameters' names aside. */
+    private static void document(String page) {
+        Set<String> left = new TreeSet<>(Set.of(FACE.split(";")));
+        Matcher told = Pattern.compile("(?m)^    public (\\w+ \\w+)\\(([^)]*)\\)( throws (\\w+))?;$").matcher(page);
+        while (told.find()) {
+            String types = told.group(2).replaceAll("(\\w+) \\w+", "$1").replace(" ", "");
+            check(left.remove(told.group(1) + "(" + types + ")"), "the face has " + told.group(1));
+        }
+        check(left.isEmpty(), "the document has " + left);
+        check(RoundHouse.NONE == -1, "NONE is -1");
+        for (Method m : RoundHouse.class.getDeclaredMethods()) {
+            Class<?>[] thrown = m.getExceptionTypes();
+            boolean asTold = m.getName().equals("row")
+                    ? thrown.length == 1 && thrown[0] == NoSuchElementException.class : thrown.length == 0;
+            check(asTold, m.getName() + " throws what the document says");
         }
     }
 
